@@ -181,10 +181,10 @@ public final class ControllerTest {
         Due.is("the sum behind a tick of another mode", 150, x.about(15));
         x.mode(2);
         Due.is("the sum when the mode becomes 2", 0, x.about(15));
-        x.set(10, 50);
+        x.set(10, 100);
         heatTo(x, 60);
         Due.is("there is no d in the first tick", 20, x.tick(1));
-        Due.is("e 80, d 40 in the second", 60, x.tick(1));
+        Due.is("e 80, d 40 in the second", 80, x.tick(1));
         x.mode(1);
         x.mode(2);
         heatTo(x, 60);

@@ -5,6 +5,7 @@ public final class ForecastTest {
     public static void main(String[] args) {
         aheadByHand();
         aheadIsWhatTicksBring();
+        aheadKnowsTheWholeHeater();
         aheadRefuses();
         outcomeIsWhatATrialBrings();
         outcomeRefuses();
@@ -70,6 +71,25 @@ public final class ForecastTest {
                     Due.is("ahead(" + m + ", " + what + ") in the mode " + mode, due[what], x.ahead(m, what));
                 }
             }
+        }
+    }
+
+    private static void aheadKnowsTheWholeHeater() {
+        RelayTuner x = Due.loaded("G17N03L4H77A-13S250B06");
+        x.set(8, 40);
+        x.set(9, 3);
+        x.set(10, 300);
+        x.mode(2);
+        x.tick(9);
+        for (int m = 1; m <= 12; m++) {
+            int due = x.ahead(1, 0);
+            Due.is("tick " + m, due, x.tick(1));
+        }
+        x.mode(1);
+        x.tick(30);
+        for (int m = 1; m <= 12; m++) {
+            int due = x.ahead(1, 0);
+            Due.is("tick " + m + " of the relay", due, x.tick(1));
         }
     }
 

@@ -5,6 +5,7 @@ public final class SlotTest {
         savesAndRestores();
         forgetsRememberedStates();
         theTextStays();
+        openTrialsAreKept();
         Due.finish();
     }
 
@@ -65,6 +66,27 @@ public final class SlotTest {
         x.tick(1);
         Due.is("undo() of the tick behind it", 0, x.undo());
         Due.is("the clock", 1, x.about(13));
+    }
+
+    private static void openTrialsAreKept() {
+        RelayTuner x = Swinging.begun();
+        Swinging.add(x, 5, 2);
+        Swinging.add(x, 5, 2);
+        x.set(8, 11);
+        x.set(9, 12);
+        x.set(10, 13);
+        x.tryRule(0);
+        x.save(0);
+        x.accept();
+        x.set(8, 21);
+        x.mode(0);
+        x.tryRule(1);
+        x.restore(0);
+        x.takeBack();
+        Due.is("P", 11, x.about(8));
+        Due.is("I", 12, x.about(9));
+        Due.is("D", 13, x.about(10));
+        Due.is("the mode", 1, x.about(11));
     }
 
     private static void theTextStays() {

@@ -12,8 +12,12 @@ public final class SwingTest {
         oddPeriods();
         oddSpans();
         middles();
+        roundedNowhere();
         tolerances();
+        tolerance99();
         discards();
+        discardedLows();
+        aCopyGoesOnWithTheSwing();
         Due.finish();
     }
 
@@ -77,6 +81,12 @@ public final class SwingTest {
         Due.is("it was off", 29, x.about(12));
         x.tick(1);
         Due.is("crossings of a tick from 29", 1, x.account(5));
+        RelayTuner z = Due.loaded("G20N50L0H99A+00S030B05");
+        z.mode(1);
+        z.disturb(30);
+        z.tick(1);
+        Due.is("on at S in the band", 69, z.about(12));
+        Due.is("crossings of a tick from S up", 0, z.account(5));
         x.set(5, 999);
         x.set(5, 10);
         Due.is("crossings of a set", 1, x.account(5));
@@ -212,6 +222,24 @@ public final class SwingTest {
         Due.is("the middle of 111 61 361", 111, x.middle(true));
     }
 
+    // 1 of 33 is more than 3 percent, by 100 against 99; 50 of 111 more than 45 percent, by 5000 against 4995.
+    private static void roundedNowhere() {
+        RelayTuner x = Swinging.begun();
+        for (int period : new int[] {9, 33, 33, 34, 32}) {
+            Swinging.add(x, period, 8);
+        }
+        Due.is("the middle period of 33 33 34 32", 33, x.middle(false));
+        reasons(x, 3, 1, 0, 0, 2, 2);
+        reasons(x, 4, 1, 0, 0, 0, 0);
+        RelayTuner y = Swinging.begun();
+        for (int k : new int[] {8, 3, 3, 4, 2}) {
+            Swinging.add(y, 4, k);
+        }
+        Due.is("the middle span of 111 111 161 61", 111, y.middle(true));
+        reasons(y, 45, 1, 0, 0, 3, 3);
+        reasons(y, 46, 1, 0, 0, 0, 0);
+    }
+
     private static void tolerances() {
         RelayTuner x = Swinging.begun();
         Due.badArgument("toleranceFor(0)", () -> x.toleranceFor(0));
@@ -236,6 +264,67 @@ public final class SwingTest {
         }
         Due.is("toleranceFor(19) of twenty", 0, x.toleranceFor(19));
         Due.is("toleranceFor(20) of twenty", NONE, x.toleranceFor(20));
+    }
+
+    // The periods 100 and 199, and the spans are the same.
+    private static void tolerance99() {
+        RelayTuner x = Swinging.begun();
+        Swinging.add(x, 9, 8);
+        Swinging.add(x, 100, 8);
+        x.disturb(408 - x.about(12));
+        x.tick(99);
+        x.disturb(400 - x.about(12));
+        x.tick(99);
+        x.disturb(-x.about(12));
+        x.tick(1);
+        Due.is("the period", 199, x.swing(2, 0));
+        Due.is("the middle period of 100 199", 100, x.middle(false));
+        Due.is("the spans", x.middle(true), x.swing(2, 1) - x.swing(2, 2));
+        Due.is("toleranceFor(2)", 99, x.toleranceFor(2));
+        reasons(x, 98, 1, 0, 2);
+        reasons(x, 99, 1, 0, 0);
+    }
+
+    // The swing that is discarded has left nothing behind, and every number of the later ones has come along.
+    private static void discardedLows() {
+        RelayTuner x = Swinging.begun();
+        Swinging.add(x, 5, 2);
+        for (int low = 1; low <= 4; low++) {
+            x.disturb(51 - x.about(12));
+            x.tick(3);
+            x.disturb(-41 - low - x.about(12));
+            x.tick(1);
+            Due.is("down at", -1 - low, x.about(12));
+            x.tick(1);
+        }
+        Due.is("the low of 1", -2, x.swing(1, 2));
+        Due.is("discard(1)", 5, x.discard(1));
+        for (int j = 1; j <= 3; j++) {
+            swing(x, j, 5, 50, -2 - j, 0, 11 + 5 * j);
+        }
+        Due.is("good swings", 3, x.about(17));
+        Due.is("discard(3)", 5, x.discard(3));
+        Due.is("good swings", 2, x.about(17));
+        Due.is("discard(0)", 5, x.discard(0));
+        Due.is("good swings", 1, x.about(17));
+        Due.is("discard(1)", 5, x.discard(1));
+        Due.is("good swings", 0, x.about(17));
+    }
+
+    private static void aCopyGoesOnWithTheSwing() {
+        RelayTuner x = Swinging.begun();
+        x.disturb(-239);
+        x.tick(1);
+        x.disturb(461);
+        x.tick(1);
+        x.save(0);
+        x.restore(0);
+        x.tick(1);
+        x.undo();
+        x.disturb(-298);
+        x.tick(1);
+        swing(x, 0, 3, 298, -157, 1, 4);
+        Due.is("behind the swing, so that the next one has its own numbers", 39, x.about(12));
     }
 
     private static void discards() {

@@ -73,6 +73,9 @@ public final class TextTest {
         position("G01N50", 6);
         position("G01N49L", 7);
         position("G01N01LA", 7);
+        position("G01N01LH01", 7);
+        position("G01NL0H01", 4);
+        position("GN01L0H01", 1);
         position("G01N01L0", 8);
         position("G01N01L10", 8);
         position("G01N01L9H", 9);
