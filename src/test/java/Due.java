@@ -4,16 +4,26 @@ import java.util.function.LongSupplier;
 final class Due {
     private static int wrong = 0;
     private static int asked = 0;
+    private static String sentence = "";
 
     private Due() {
+    }
+
+    /** The sentence of the document that the next answers are asked for; it stands before each wrong one. */
+    static void words(String document) {
+        sentence = "[" + document + "] ";
     }
 
     static void is(String call, long want, long got) {
         asked++;
         if (got != want) {
-            wrong++;
-            System.out.println(call + " answered " + got + ", due is " + want);
+            tell(call + " answered " + got + ", due is " + want);
         }
+    }
+
+    private static void tell(String fault) {
+        wrong++;
+        System.out.println(sentence + fault);
     }
 
     static void badArgument(String call, LongSupplier body) {
@@ -29,16 +39,13 @@ final class Due {
     }
 
     // The class itself is asked for, since the machine's own exceptions are subclasses of these.
-    private static void thrown(String call, Class<? extends RuntimeException> due, LongSupplier body) {
+    static void thrown(String call, Class<? extends RuntimeException> due, LongSupplier body) {
         asked++;
         try {
-            long got = body.getAsLong();
-            wrong++;
-            System.out.println(call + " answered " + got + ", due is " + due.getName());
+            tell(call + " answered " + body.getAsLong() + ", due is " + due.getName());
         } catch (RuntimeException e) {
             if (e.getClass() != due) {
-                wrong++;
-                System.out.println(call + " threw " + e + ", due is " + due.getName());
+                tell(call + " threw " + e + ", due is " + due.getName());
             }
         }
     }
@@ -60,8 +67,12 @@ final class Due {
             }
         }
         all.append(" | ").append(x.errorPosition());
-        for (int m = 0; m <= 40; m++) {
-            all.append(' ').append(x.ahead(m, 0)).append(' ').append(x.ahead(m, 3));
+        // The pipe is shorter than 12 ticks; what comes behind them shows in the sums.
+        for (int m = 1; m <= 12; m++) {
+            all.append(' ').append(x.ahead(m, 0));
+        }
+        for (int what = 0; what <= 4; what++) {
+            all.append(' ').append(x.ahead(90, what));
         }
         return all.toString();
     }
@@ -69,8 +80,7 @@ final class Due {
     static void same(String call, String want, String got) {
         asked++;
         if (!want.equals(got)) {
-            wrong++;
-            System.out.println(call + " left\n  " + got + "\ndue is\n  " + want);
+            tell(call + " left\n  " + got + "\ndue is\n  " + want);
         }
     }
 
@@ -78,6 +88,15 @@ final class Due {
         x.clearText();
         for (int i = 0; i < text.length(); i++) {
             x.append(text.charAt(i));
+        }
+    }
+
+    /** Disturbs the heater until it has a temperature. */
+    static void heat(RelayTuner x, int temperature) {
+        int away = temperature - x.about(12);
+        for (int k = 0; k < 50 && away != 0; k++) {
+            x.disturb(Math.max(-500, Math.min(500, away)));
+            away = temperature - x.about(12);
         }
     }
 
