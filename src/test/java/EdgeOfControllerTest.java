@@ -62,13 +62,14 @@ public final class EdgeOfControllerTest {
             Refused.argument("set(" + what + ", 1)", x -> x.set(what, 1));
         }
         Refused.argument("set(11, -1)", x -> x.set(11, -1));
-        RelayTuner x = new RelayTuner();
-        for (int what = 5; what <= 10; what++) {
-            x.set(what, what);
-        }
-        int[] due = {10, 8, 2, 20, 20, 5, 6, 7, 8, 9, 10, 0, 20, 0, 0, 0, 0, 0, 0, 0};
-        for (int what = 0; what <= 19; what++) {
-            Due.is("about(" + what + ") behind all sets", due[what], x.about(what));
+        for (int set = 5; set <= 10; set++) {
+            RelayTuner x = new RelayTuner();
+            int[] due = {10, 8, 2, 20, 20, 100, 3, 20, 50, 0, 0, 0, 20, 0, 0, 0, 0, 0, 0, 0};
+            due[set] = set;
+            x.set(set, set);
+            for (int what = 0; what <= 19; what++) {
+                Due.is("about(" + what + ") behind set(" + set + ", " + set + ")", due[what], x.about(what));
+            }
         }
     }
 

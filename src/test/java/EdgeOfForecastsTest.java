@@ -293,6 +293,8 @@ public final class EdgeOfForecastsTest {
         Due.words("the smallest k, 0 to 200, such that (without other changes) the temperature behind k ticks (now, for "
             + "0) ..");
         RelayTuner x = at(SLOW, 30);
+        Due.is("settlesAfter(99)", 0, x.settlesAfter(99));
+        Due.is("settlesAfter(31)", 0, x.settlesAfter(31));
         Due.is("settlesAfter(30)", 0, x.settlesAfter(30));
         Due.is("settlesAfter(29)", 1, x.settlesAfter(29));
         Due.is("settlesAfter(28)", 2, x.settlesAfter(28));

@@ -20,6 +20,7 @@ public final class EdgeOfOddSwingsTest {
         toleranceForRefuses();
         discards();
         laterNumbersDecrease();
+        lowsOfLaterNumbers();
         discardRefuses();
         Due.finish();
     }
@@ -273,6 +274,27 @@ public final class EdgeOfOddSwingsTest {
             }
             Due.is("number 0 is odd", 1, x.swing(0, 3));
             Due.badIndex("swing(19, 0)", () -> x.swing(19, 0));
+        }
+    }
+
+    // A tick of the relay brings half the way to 100: from -102 to -1, and from there over S = 10.
+    private static void lowsOfLaterNumbers() {
+        Due.words("the numbers of later ones decrease by 1");
+        for (int gone = 0; gone < 5; gone++) {
+            RelayTuner x = Due.loaded("G02N02L0H50A+00S010B00");
+            x.mode(1);
+            x.tick(1);
+            for (int k = 1; k <= 5; k++) {
+                Due.heat(x, -100 - 2 * k);
+                x.tick(2);
+            }
+            Due.is("discard(" + gone + ")", 2, x.discard(gone));
+            Due.is("swings", 4, x.about(16));
+            for (int j = 0; j < 4; j++) {
+                int k = j < gone ? j + 1 : j + 2;
+                Due.is("the low of " + j + " behind discard(" + gone + ")", -k, x.swing(j, 2));
+                Due.is("its high", -k + (100 + k) / 2, x.swing(j, 1));
+            }
         }
     }
 
