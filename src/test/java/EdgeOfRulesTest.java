@@ -5,6 +5,7 @@ public final class EdgeOfRulesTest {
     public static void main(String[] args) {
         ifThereIsAGoodSwing();
         ofTheGoodSwings();
+        withoutTheDiscarded();
         spanAtLeast1();
         roundedDown();
         eachRule();
@@ -66,6 +67,21 @@ public final class EdgeOfRulesTest {
         // s = 504 / 4 = 126, p = 41 / 4 = 10, K = 50; the period 40 is still odd.
         Due.is("good swings", 4, x.about(17));
         proposed("of four", x, 2, 30, 6, 37);
+    }
+
+    private static void withoutTheDiscarded() {
+        Due.words("discard: Forgets a swing");
+        for (int gone = 1; gone <= 3; gone++) {
+            RelayTuner x = Made.of(50, new int[] {10, 100}, new int[] {10, 100}, new int[] {11, 104},
+                    new int[] {12, 110});
+            int[] spans = {0, 100, 104, 110};
+            int s = (314 - spans[gone]) / 2;
+            int p = (33 - 9 - gone) / 2;
+            x.discard(gone);
+            Due.is("good swings", 2, x.about(17));
+            int k = 6350 / s * 6 / 10;
+            proposed("behind discard(" + gone + ")", x, 2, k, k * 2 / p, k * p / 8);
+        }
     }
 
     private static void spanAtLeast1() {
